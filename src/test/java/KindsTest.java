@@ -10,6 +10,8 @@ public final class KindsTest {
         back();
         whatImagesDoNotKeep();
         whatHappensAfterAnImage();
+        songsOfAnImage();
+        imageOfTheLastYear();
         count();
         constants();
         DUE.end();
@@ -144,6 +146,62 @@ public final class KindsTest {
             DUE.is("LIFE " + what, x.life(0, what), y.life(0, what));
         }
         DUE.is("PRINTED", x.printed(0, 0), y.printed(0, 0));
+    }
+
+    /** Songs of a land begun anew take the places of those that the image has; LETTERS of the past tell them apart. */
+    private static void songsOfAnImage() {
+        SlangYears x = Due.with("place;place;law 0 0 0;start 1;word 3 0 0;word 3 0 0;");
+        x.go(1);
+        x.song(1, 1, 30);
+        x.keep(0);
+        x.anew();
+        x.song(0, 0, 60);
+        DUE.is("back(0)", x.back(0), 1);
+        DUE.is("SONGS", x.count(3), 1);
+        x.go(1);
+        x.letter(3, 1, 13, 1);
+        DUE.is("the song's year, word and place", x.could(), 1);
+        x.letter(2, 0, 13, 1);
+        DUE.is("not the year before", x.could(), 2);
+        x.letter(2, 1, 13, 1);
+        DUE.is("as many then as NOW, upper", x.forged(14, 1, 5, 0), 1);
+        DUE.is("as many then as NOW, lower", x.forged(14, 1, 5, 1), 2);
+        x = Due.with("place;law 0 0 9;start 1;word 3 0 0;");
+        x.song(0, 0, 80);
+        int kills = x.kills(0);
+        x.keep(1);
+        x.anew();
+        x.song(0, 0, 8);
+        x.back(1);
+        DUE.is("its song is heard in years to come", x.kills(0), kills);
+    }
+
+    private static void imageOfTheLastYear() {
+        SlangYears x = Due.with("place;law 0 0 0;start 54;word 3 79 0;");
+        x.go(98);
+        DUE.is("67 of PARENTS in year 98", x.printed(0, 0), SlangYears.NONE);
+        x.go(1);
+        x.song(0, 0, 90);
+        x.keep(0);
+        x.anew();
+        x.go(79);
+        x.song(0, 0, 99);
+        x.go(20);
+        DUE.is("PRINTED of the song", x.printed(0, 0), 98);
+        x.back(0);
+        DUE.is("PEAK in year 99", x.life(0, 0), 900);
+        DUE.is("its YEAR", x.life(0, 1), 99);
+        DUE.is("101 of PARENTS in year 99", x.printed(0, 0), 101);
+        x = Due.with("place;law 6 0 0;start 30;word 3 0 0;");
+        x.go(98);
+        x.song(0, 0, 99);
+        x.keep(0);
+        x.anew();
+        x.go(98);
+        x.back(0);
+        x.go(1);
+        DUE.is("heard from 990: 6 * 990 * 1000 * 1000 / 10^7", x.share(0, 0, 13), 594);
+        DUE.is("heard from 990: 6 * 990 * 10 * 1000 / 10^7 more", x.share(0, 0, 14), 995);
     }
 
     private static void count() {

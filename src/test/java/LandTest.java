@@ -79,6 +79,7 @@ public final class LandTest {
         DUE.is("law and start without a place", Due.landOf("law 0 9 0;start 1;"), 2);
         DUE.is("start 99", Due.landOf("start 99;"), 1);
         DUE.is("greatest numbers", Due.landOf("place;place;place;near 1 2 9;law 9 9 9;word 3 90 2;"), 6);
+        DUE.is("least numbers", Due.landOf("place;place;near 0 1 0;law 0 0 0;word 0 0 0;"), 5);
         DUE.is("nears again", Due.landOf("place;place;near 0 1 3;near 1 0 4;near 0 1 5;"), 5);
         DUE.is("places behind words", Due.landOf("place;word 0 0 0;place;word 0 0 1 plain;place;"), 5);
         SlangYears x = Due.with("word 0 0 0;");
@@ -104,6 +105,10 @@ public final class LandTest {
         DUE.is("no such word", Due.landOf("place; places;"), -10 - 7);
         DUE.is("a word too short", Due.landOf("plac;"), -10);
         DUE.is("two words run together", Due.landOf("placeplace;"), -10);
+        DUE.is("z is a letter", Due.landOf("placez;"), -10);
+        DUE.is("a is a letter", Due.landOf("placea;"), -10);
+        DUE.is("letters behind a number", Due.landOf("start 5z;"), -10 - 7);
+        DUE.is("9 is a digit", Due.landOf("start 19;"), 1);
         DUE.is("an upper letter", Due.landOf("Place;"), -10);
         DUE.is("an upper letter within", Due.landOf("plAce;"), -10);
         DUE.is("an upper letter behind", Due.landOf("place;nEar"), -10 - 6);
