@@ -12,6 +12,8 @@ public final class LandTest {
         faultsOfNumbers();
         faultsOfItems();
         textsThatEndTooEarly();
+        textsOf300();
+        bytesOfAnEarlierText();
         landThatFails();
         landReadAnew();
         law();
@@ -174,6 +176,34 @@ public final class LandTest {
         DUE.is("near 0 1 5", Due.landOf("place;place;near 0 1 5"), -10 - 22);
         DUE.is("word 0 0 0", Due.landOf("place;word 0 0 0"), -10 - 16);
         DUE.is("word 0 0 0 plain", Due.landOf("place;word 0 0 0 plain"), -10 - 22);
+    }
+
+    private static void textsOf300() {
+        DUE.is("300 that end in letters", Due.landOf(" ".repeat(295) + "place"), -10 - 300);
+        DUE.is("300 that end in other letters", Due.landOf(" ".repeat(295) + "plain"), -10 - 295);
+        DUE.is("300 that end in a number", Due.landOf("start" + " ".repeat(294) + "5"), -10 - 300);
+        DUE.is("300 that end in ;", Due.landOf("start" + " ".repeat(293) + "5;"), 1);
+        DUE.is("300 digits", Due.landOf("5".repeat(300)), -10);
+        DUE.is("digits behind start", Due.landOf("start" + "5".repeat(295)), -10 - 5);
+        DUE.is("300 letters", Due.landOf("word".repeat(75)), -10);
+        String places = "place;place;place;";
+        DUE.is("many items", Due.landOf(places + "near 0 1 5;near 1 2 5;".repeat(12) + "start 9;"), 28);
+    }
+
+    private static void bytesOfAnEarlierText() {
+        SlangYears x = new SlangYears();
+        Due.type(x, "placeplace;");
+        x.clear();
+        Due.type(x, "place");
+        DUE.is("letters that were cleared", x.land(), -10 - 5);
+        x.clear();
+        Due.type(x, "start 123;");
+        x.clear();
+        Due.type(x, "start 1");
+        DUE.is("digits that were cleared", x.land(), -10 - 7);
+        Due.type(x, ";");
+        DUE.is("the rest", x.land(), 1);
+        DUE.is("START", x.law(3), 1);
     }
 
     private static void landThatFails() {
