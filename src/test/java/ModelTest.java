@@ -114,7 +114,7 @@ public final class ModelTest {
         byte[] bytes = text.getBytes(StandardCharsets.ISO_8859_1);
         for (int from = 0; from < bytes.length; from += 8) {
             int n = Math.min(8, bytes.length - from);
-            long v = Due.packed(bytes, from, n);
+            long v = Lands.packed(bytes, from, n);
             is("type(" + v + ", " + n + ")", x.type(v, n), model.type(v, n));
         }
         is("land() of '" + text + "'", x.land(), model.land());
