@@ -81,6 +81,10 @@ public final class LanguageTest {
         for (Class<?> c : inside) {
             DUE.is(c.getName() + " is static", Modifier.isStatic(c.getModifiers()) ? 1 : 0, 1);
             DUE.is(c.getName() + " is not open", c.getModifiers() & (Modifier.PUBLIC | Modifier.PROTECTED), 0);
+            for (Method m : c.getDeclaredMethods()) {
+                boolean named = FACE.stream().anyMatch(face -> face.contains(" " + m.getName() + "("));
+                DUE.is(c.getName() + "." + m.getName() + " bears a public name", named ? 1 : 0, 0);
+            }
             int fields = 0;
             for (Field f : c.getDeclaredFields()) {
                 fields += Modifier.isStatic(f.getModifiers()) ? 0 : 1;

@@ -242,6 +242,15 @@ final class Promise09 {
         due.is("share of 19: 250 less 5 * 200 * 250 / 10 000", x.share(0, 0, 19), 225);
     }
 
+    @Says("less by DROP times PARENTS times SHARE by 10 000, rounded down")
+    static void whatIsDroppedIsRoundedDown(Due due) {
+        SlangYears x = after(20, "place;law 0 0 5;start 54;word 0 0 0;");
+        x.song(0, 0, 99);
+        due.is("PARENTS", x.has(0, 0, 1), 101);
+        x.go(1);
+        due.is("share of 19: 990 less 49 of 49.995", x.share(0, 0, 19), 941);
+    }
+
     @Says("then at AGES 10 to 19 less by DROP times PARENTS times SHARE by 10 000, rounded down")
     static void theYoungestDropItToo(Due due) {
         SlangYears x = after(3, "place;law 0 9 5;start 70;word 0 0 0;");
@@ -329,6 +338,14 @@ final class Promise09 {
     static void whatIsLearntIsRoundedDown(Due due) {
         SlangYears x = after(3, "place;law 0 9 0;start 99;word 0 0 0;");
         due.is("share of 35: 381 of 381.6", x.share(0, 0, 35), 381);
+        x = Lands.with("place;law 0 1 0;start 1;word 0 0 0;");
+        x.song(0, 0, 11);
+        x.go(1);
+        x.song(0, 0, 91);
+        x.go(2);
+        due.is("share of 36: 110 / 10", x.share(0, 0, 36), 11);
+        x.go(1);
+        due.is("share of 36: 11 and 89 of 89.999", x.share(0, 0, 36), 100);
     }
 
     // ---- plain ones
@@ -348,6 +365,11 @@ final class Promise09 {
         x.song(0, 0, 50);
         x.go(1);
         due.is("share of 13: 1 * 500 / 10", x.share(0, 0, 13), 50);
+        x = Lands.with("place;law 9 0 0;start 15;word 0 0 0 plain;");
+        x.song(0, 0, 10);
+        due.is("YOUNG: 850 / 7", x.has(0, 0, 0), 121);
+        x.go(1);
+        due.is("share of 13: 108 of 108.9", x.share(0, 0, 13), 108);
     }
 
     @Says("(a PLAIN one: as if PARENTS were 0 in both)")

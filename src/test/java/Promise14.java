@@ -216,6 +216,14 @@ final class Promise14 {
     }
 
     @Says("KEPT: the AGE with the greatest SHARES of all PLACES, added, NOW, the least such.")
+    static void aShareOf1IsTheGreatestWhereThereIsNoOther(Due due) {
+        SlangYears x = after(60, "place;law 1 0 0;start 3;word 0 0 0;");
+        due.is("share of 69", x.share(0, 0, 69), 1);
+        due.is("share of 68", x.share(0, 0, 68), 0);
+        due.is("KEPT", x.life(0, 3), 69);
+    }
+
+    @Says("KEPT: the AGE with the greatest SHARES of all PLACES, added, NOW, the least such.")
     static void whereNobodyHasItItIsTheLeastOfAll(Due due) {
         due.is("KEPT", after(99, Lands.STILL).life(0, 3), 10);
     }

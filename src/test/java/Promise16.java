@@ -137,6 +137,16 @@ final class Promise16 {
     }
 
     @Says("(STATE: these are 0)")
+    static void weightsOf1InAllAreNot0(Due due) {
+        SlangYears x = Lands.with("place;law 1 0 0;start 3;word 0 0 0;");
+        x.go(60);
+        due.is("share of 69", x.share(0, 0, 69), 1);
+        fraction(due, x, new int[] {1, 0, 10, 69}, 1, 1);
+        x.go(1);
+        fraction(due, x, new int[] {1, 0, 10, 69}, SlangYears.STATE, SlangYears.STATE);
+    }
+
+    @Says("(STATE: these are 0)")
     static void withoutPlacesItIsState(Due due) {
         due.is("old(0, 0, 10, 69, 0)", new SlangYears().old(0, 0, 10, 69, 0), SlangYears.STATE);
         due.is("old(0, 0, 10, 69, 1)", new SlangYears().old(0, 0, 10, 69, 1), SlangYears.STATE);

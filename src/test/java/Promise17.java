@@ -89,6 +89,15 @@ final class Promise17 {
     }
 
     @Says("STATE: all WEIGHTS are 0, no PLACES.")
+    static void aWeightOf1IsNot0(Due due) {
+        SlangYears x = Lands.with("place;law 1 0 0;start 3;word 0 0 0;");
+        x.go(60);
+        likely(due, x, new int[] {1, 0}, 69, 0);
+        x.go(1);
+        likely(due, x, new int[] {1, 0}, SlangYears.STATE, SlangYears.STATE);
+    }
+
+    @Says("STATE: all WEIGHTS are 0, no PLACES.")
     static void withoutPlacesItIsState(Due due) {
         due.is("likeliest(0, 0, 0)", new SlangYears().likeliest(0, 0, 0), SlangYears.STATE);
         due.is("likeliest(0, 0, 1)", new SlangYears().likeliest(0, 0, 1), SlangYears.STATE);
