@@ -8,8 +8,12 @@ final class Lands {
     /** Two still places with a word each, and one that is coined in year 1. */
     static final String TWO_STILL = "place;place;law 0 0 0;start 40;word 0 0 0;word 0 0 1;word 0 1 0;";
 
-    static final String BUSY =
-        "place;place;place;near 0 1 4;near 2 1 7;law 7 6 5;start 30;word 0 0 0;word 1 2 1;word 1 1 0 plain;word 2 50 2;";
+    /** All PLACES and WORDS that there may be; word 4 is had at place 2. */
+    static final String ALL = "place;place;place;law 0 0 0;start 40;"
+        + "word 0 0 0;word 1 0 1;word 2 0 2;word 3 0 0;word 1 0 2;";
+
+    static final String BUSY = "place;place;place;near 0 1 4;near 2 1 7;law 7 6 5;start 30;"
+        + "word 0 0 0;word 1 2 1;word 1 1 0 plain;word 2 50 2;";
 
     static final String BUSY_TEXT = "place;start 9;";
 

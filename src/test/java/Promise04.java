@@ -1,5 +1,11 @@
 /** Promise 4, land(): the text that tells THE LAND, its FAULTS, what a LAND read anew leaves. */
 final class Promise04 {
+    private static final String NEAR = "near A B V (PLACES that were told, not one and the same; V 0 .. 9";
+
+    private static final String READ_ANEW = "A LAND read anew: what is not told is as at first";
+
+    private static final String GONE = "YEAR 0, no SONGS, no WRITINGS, no LETTER, IMAGES are gone";
+
     private static final String FIVE_WORDS = "place;word 0 0 0;word 0 0 0;word 0 0 0;word 0 0 0;word 0 0 0;";
 
     private Promise04() { }
@@ -105,43 +111,43 @@ final class Promise04 {
         fault(due, "place;place;place;law 1 1 1;place;", 28);
     }
 
-    @Says("near A B V (PLACES that were told, not one and the same; V 0 .. 9")
+    @Says(NEAR)
     static void vOf0IsTheLeast(Due due) {
         SlangYears x = Lands.with("place;place;near 0 1 4;near 0 1 0;");
         due.is("count(0)", x.count(0), 2);
         due.is("near(0, 1)", x.near(0, 1), 0);
     }
 
-    @Says("near A B V (PLACES that were told, not one and the same; V 0 .. 9")
+    @Says(NEAR)
     static void vOf9IsTheMost(Due due) {
         due.is("near(0, 1)", Lands.with("place;place;near 0 1 9;").near(0, 1), 9);
     }
 
-    @Says("near A B V (PLACES that were told, not one and the same; V 0 .. 9")
+    @Says(NEAR)
     static void vOf10IsAFault(Due due) {
         fault(due, "place;place;near 0 1 10;", 21);
         fault(due, "place;place;near 0 1 99;", 21);
     }
 
-    @Says("near A B V (PLACES that were told, not one and the same; V 0 .. 9")
+    @Says(NEAR)
     static void anAThatWasNotToldIsAFault(Due due) {
         fault(due, "place;place;near 2 0 1;", 17);
         fault(due, "near 0 1 5;", 5);
     }
 
-    @Says("near A B V (PLACES that were told, not one and the same; V 0 .. 9")
+    @Says(NEAR)
     static void aBThatWasNotToldIsAFault(Due due) {
         fault(due, "place;near 0 1 5;", 13);
         fault(due, "place;place;place;near 0 3 5;", 25);
     }
 
-    @Says("near A B V (PLACES that were told, not one and the same; V 0 .. 9")
+    @Says(NEAR)
     static void placesToldBehindTheNearDoNotCount(Due due) {
         fault(due, "place;near 0 1 5;place;", 13);
         fault(due, "place;place;near 2 1 5;place;", 17);
     }
 
-    @Says("near A B V (PLACES that were told, not one and the same; V 0 .. 9")
+    @Says(NEAR)
     static void aBThatIsAIsAFault(Due due) {
         fault(due, "place;place;near 1 1 5;", 19);
         fault(due, "place;near 0 0 5;", 13);
@@ -400,8 +406,10 @@ final class Promise04 {
             String word = words[k];
             due.is("land() with " + word, Lands.itemsOf(ahead[k] + word + behind[k]) > 0 ? 1 : 0, 1);
             for (int i = 0; i < word.length(); i++) {
-                fault(due, ahead[k] + word.substring(0, i) + "x" + word.substring(i + 1) + behind[k], ahead[k].length());
-                fault(due, ahead[k] + word.substring(0, i) + word.substring(i + 1) + behind[k], ahead[k].length());
+                String first = ahead[k] + word.substring(0, i);
+                String last = word.substring(i + 1) + behind[k];
+                fault(due, first + "x" + last, ahead[k].length());
+                fault(due, first + last, ahead[k].length());
             }
         }
     }
@@ -545,7 +553,7 @@ final class Promise04 {
         return x;
     }
 
-    @Says("A LAND read anew: what is not told is as at first")
+    @Says(READ_ANEW)
     static void placesThatAreNotToldAreGone(Due due) {
         SlangYears x = Lands.busy();
         x.clear();
@@ -554,7 +562,7 @@ final class Promise04 {
         due.is("near(0, 1)", x.near(0, 1), SlangYears.BAD);
     }
 
-    @Says("A LAND read anew: what is not told is as at first")
+    @Says(READ_ANEW)
     static void wordsThatAreNotToldAreGone(Due due) {
         SlangYears x = readAnew();
         due.is("WORDS", x.count(1), 1);
@@ -562,7 +570,7 @@ final class Promise04 {
         due.is("PLAIN of the first of before", x.word(0, 3), 0);
     }
 
-    @Says("A LAND read anew: what is not told is as at first")
+    @Says(READ_ANEW)
     static void aWordInThePlaceOfAPlainOneIsNotPlain(Due due) {
         SlangYears x = Lands.with("place;word 0 0 0 plain;");
         Lands.type(x, "place;word 0 0 0 plain;");
@@ -574,7 +582,7 @@ final class Promise04 {
         }
     }
 
-    @Says("A LAND read anew: what is not told is as at first")
+    @Says(READ_ANEW)
     static void nearThatIsNotToldIs0(Due due) {
         SlangYears x = readAnew();
         due.is("near(0, 1)", x.near(0, 1), 0);
@@ -582,7 +590,7 @@ final class Promise04 {
         due.is("near(2, 1)", x.near(2, 1), 0);
     }
 
-    @Says("A LAND read anew: what is not told is as at first")
+    @Says(READ_ANEW)
     static void lawsThatAreNotToldAreAsAtFirst(Due due) {
         SlangYears x = readAnew();
         due.is("TAKE", x.law(0), 6);
@@ -590,7 +598,7 @@ final class Promise04 {
         due.is("DROP", x.law(2), 5);
     }
 
-    @Says("A LAND read anew: what is not told is as at first")
+    @Says(READ_ANEW)
     static void startThatIsNotToldIs20(Due due) {
         SlangYears x = readAnew();
         due.is("START", x.law(3), 20);
@@ -606,7 +614,7 @@ final class Promise04 {
         due.is("go(99)", x.go(99), 99);
     }
 
-    @Says("YEAR 0, no SONGS, no WRITINGS, no LETTER, IMAGES are gone")
+    @Says(GONE)
     static void thereAreNoSongs(Due due) {
         SlangYears x = readAnew();
         due.is("count(3)", x.count(3), 0);
@@ -614,14 +622,14 @@ final class Promise04 {
         due.is("part(0): songs of before are not heard", x.part(0), 0);
     }
 
-    @Says("YEAR 0, no SONGS, no WRITINGS, no LETTER, IMAGES are gone")
+    @Says(GONE)
     static void thereAreNoWritings(Due due) {
         SlangYears x = readAnew();
         due.is("count(4)", x.count(4), 0);
         due.is("span(0, 0)", x.span(0, 0), SlangYears.NO);
     }
 
-    @Says("YEAR 0, no SONGS, no WRITINGS, no LETTER, IMAGES are gone")
+    @Says(GONE)
     static void thereIsNoLetter(Due due) {
         SlangYears x = readAnew();
         x.go(20);
@@ -629,17 +637,17 @@ final class Promise04 {
         due.is("forged(15, 0, 5, 0)", x.forged(15, 0, 5, 0), SlangYears.STATE);
     }
 
-    @Says("YEAR 0, no SONGS, no WRITINGS, no LETTER, IMAGES are gone")
+    @Says(GONE)
     static void image0IsGone(Due due) {
         due.is("back(0)", readAnew().back(0), SlangYears.STATE);
     }
 
-    @Says("YEAR 0, no SONGS, no WRITINGS, no LETTER, IMAGES are gone")
+    @Says(GONE)
     static void image1IsGone(Due due) {
         due.is("back(1)", readAnew().back(1), SlangYears.STATE);
     }
 
-    @Says("A LAND read anew: what is not told is as at first")
+    @Says(READ_ANEW)
     static void sharesAndLifeBeginAnew(Due due) {
         SlangYears x = readAnew();
         due.is("share(0, 0, 15)", x.share(0, 0, 15), 0);
@@ -672,7 +680,7 @@ final class Promise04 {
         due.is("share(0, 0, 15)", x.share(0, 0, 15), 70);
     }
 
-    @Says("near A B V (PLACES that were told, not one and the same; V 0 .. 9")
+    @Says(NEAR)
     static void lawAndNearToldBehindAWordCountForItToo(Due due) {
         SlangYears x = Lands.with("place;place;word 1 0 0;start 30;near 0 1 5;law 9 0 0;");
         x.go(1);

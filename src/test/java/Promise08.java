@@ -1,5 +1,8 @@
 /** Promise 8, word(w, what). */
 final class Promise08 {
+    private static final String WHAT = "Of a WORD: 0 MEANING, 1 YEAR, 2 PLACE, 3 whether it is PLAIN, "
+        + "4 whether it is COINED.";
+
     private static final String LAND = "place;place;place;word 3 2 1 plain;word 0 90 0;word 1 0 2;";
 
     private Promise08() { }
@@ -8,28 +11,28 @@ final class Promise08 {
         Twins.refused(due, Lands::busy, x -> x.word(w, what), SlangYears.BAD);
     }
 
-    @Says("Of a WORD: 0 MEANING, 1 YEAR, 2 PLACE, 3 whether it is PLAIN, 4 whether it is COINED.")
+    @Says(WHAT)
     static void whatOf0IsTheMeaning(Due due) {
         SlangYears x = Lands.with(LAND);
         due.is("word(0, 0)", x.word(0, 0), 3);
         due.is("word(1, 0)", x.word(1, 0), 0);
     }
 
-    @Says("Of a WORD: 0 MEANING, 1 YEAR, 2 PLACE, 3 whether it is PLAIN, 4 whether it is COINED.")
+    @Says(WHAT)
     static void whatOf1IsTheYear(Due due) {
         SlangYears x = Lands.with(LAND);
         due.is("word(1, 1)", x.word(1, 1), 90);
         due.is("word(2, 1)", x.word(2, 1), 0);
     }
 
-    @Says("Of a WORD: 0 MEANING, 1 YEAR, 2 PLACE, 3 whether it is PLAIN, 4 whether it is COINED.")
+    @Says(WHAT)
     static void whatOf2IsThePlace(Due due) {
         SlangYears x = Lands.with(LAND);
         due.is("word(1, 2)", x.word(1, 2), 0);
         due.is("word(2, 2)", x.word(2, 2), 2);
     }
 
-    @Says("Of a WORD: 0 MEANING, 1 YEAR, 2 PLACE, 3 whether it is PLAIN, 4 whether it is COINED.")
+    @Says(WHAT)
     static void whatOf3IsWhetherItIsPlain(Due due) {
         SlangYears x = Lands.with(LAND);
         due.is("word(0, 3)", x.word(0, 3), 1);
@@ -86,6 +89,13 @@ final class Promise08 {
     static void whatBelow0IsBad(Due due) {
         bad(due, 0, -1);
         bad(due, 0, Integer.MIN_VALUE);
+    }
+
+    @Says("WORDS 0 .. (5 at most)")
+    static void theFifthWordStands(Due due) {
+        SlangYears x = Lands.with(Lands.ALL);
+        due.is("word(4, 0)", x.word(4, 0), 1);
+        due.is("word(4, 2)", x.word(4, 2), 2);
     }
 
     @Says("BAD (a number is not as told, or there is no such thing)")

@@ -54,6 +54,14 @@ final class Promise11 {
         bad(due, 0, 0, Integer.MAX_VALUE);
     }
 
+    @Says("WORDS 0 .. (5 at most)")
+    static void theFifthWordAndTheThirdPlaceStand(Due due) {
+        SlangYears x = Lands.with(Lands.ALL);
+        due.is("share(4, 2, 15)", x.share(4, 2, 15), 400);
+        due.is("share(4, 1, 15)", x.share(4, 1, 15), 0);
+        due.is("share(3, 2, 15)", x.share(3, 2, 15), 0);
+    }
+
     @Says("BAD (a number is not as told, or there is no such thing)")
     static void aWordThatThereIsNotIsBad(Due due) {
         bad(due, 4, 0, 15);

@@ -111,6 +111,13 @@ final class Promise12 {
         bad(due, 0, Integer.MIN_VALUE, 0);
     }
 
+    @Says("WORDS 0 .. (5 at most)")
+    static void theFifthWordAndTheThirdPlaceStand(Due due) {
+        SlangYears x = Lands.with(Lands.ALL);
+        due.is("has(4, 2, 0): 1200 / 7", x.has(4, 2, 0), 171);
+        due.is("has(4, -1, 0): 171 / 3", x.has(4, -1, 0), 57);
+    }
+
     @Says("BAD (a number is not as told, or there is no such thing)")
     static void aPlaceBehindTheLastIsBad(Due due) {
         bad(due, 0, 3, 0);

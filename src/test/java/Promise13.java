@@ -36,6 +36,13 @@ final class Promise13 {
         bad(due, 0, 0, Integer.MAX_VALUE);
     }
 
+    @Says("WORDS 0 .. (5 at most)")
+    static void theFifthWordAndTheThirdPlaceStand(Due due) {
+        SlangYears x = Lands.with(Lands.ALL);
+        due.is("song(4, 2, 60)", x.song(4, 2, 60), 1);
+        due.is("share(4, 2, 13)", x.share(4, 2, 13), 600);
+    }
+
     @Says("BAD (a number is not as told, or there is no such thing)")
     static void aWordThatThereIsNotIsBad(Due due) {
         bad(due, 4, 0, 5);

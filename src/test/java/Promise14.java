@@ -1,5 +1,10 @@
 /** Promise 14, life(w, what). */
 final class Promise14 {
+    private static final String KEPT = "KEPT: the AGE with the greatest SHARES of all PLACES, added, NOW, "
+        + "the least such.";
+
+    private static final String OVER = "OVER: the first YEAR behind that with a MEAN of YOUNG below 100; NONE.";
+
     /** MEAN of YOUNG: 214 in years 2 to 4, then 142, 71, 0. */
     private static final String LATER = "place;law 0 0 0;start 50;word 1 2 0;";
 
@@ -82,7 +87,7 @@ final class Promise14 {
 
     // ---- over
 
-    @Says("OVER: the first YEAR behind that with a MEAN of YOUNG below 100; NONE.")
+    @Says(OVER)
     static void aMeanOf100IsNotOver(Due due) {
         SlangYears x = Lands.with(TWO_LOW);
         x.song(0, 0, 11);
@@ -94,7 +99,7 @@ final class Promise14 {
         due.is("OVER", x.life(0, 2), SlangYears.NONE);
     }
 
-    @Says("OVER: the first YEAR behind that with a MEAN of YOUNG below 100; NONE.")
+    @Says(OVER)
     static void aMeanOf99IsOver(Due due) {
         SlangYears x = Lands.with(TWO_LOW);
         x.song(0, 0, 11);
@@ -106,7 +111,7 @@ final class Promise14 {
         due.is("OVER", x.life(0, 2), 1);
     }
 
-    @Says("OVER: the first YEAR behind that with a MEAN of YOUNG below 100; NONE.")
+    @Says(OVER)
     static void itIsTheFirstSuch(Due due) {
         SlangYears x = after(5, LATER);
         due.is("OVER in year 5, of 142", x.life(0, 2), SlangYears.NONE);
@@ -116,13 +121,13 @@ final class Promise14 {
         due.is("OVER in year 66", x.life(0, 2), 6);
     }
 
-    @Says("OVER: the first YEAR behind that with a MEAN of YOUNG below 100; NONE.")
+    @Says(OVER)
     static void yearsAheadOfThePeakDoNotCount(Due due) {
         SlangYears x = after(2, LATER);
         due.is("OVER, though years 0 and 1 are below", x.life(0, 2), SlangYears.NONE);
     }
 
-    @Says("OVER: the first YEAR behind that with a MEAN of YOUNG below 100; NONE.")
+    @Says(OVER)
     static void theYearOfThePeakDoesNotCount(Due due) {
         SlangYears x = Lands.with(LOW);
         due.is("PEAK", x.life(0, 0), 4);
@@ -131,7 +136,7 @@ final class Promise14 {
         due.is("OVER in year 1", x.life(0, 2), 1);
     }
 
-    @Says("OVER: the first YEAR behind that with a MEAN of YOUNG below 100; NONE.")
+    @Says(OVER)
     static void aLesserSongBehindItLeavesIt(Due due) {
         SlangYears x = after(8, LATER);
         x.song(0, 0, 20);
@@ -139,7 +144,7 @@ final class Promise14 {
         due.is("OVER", x.life(0, 2), 6);
     }
 
-    @Says("OVER: the first YEAR behind that with a MEAN of YOUNG below 100; NONE.")
+    @Says(OVER)
     static void behindAGreaterSongItIsNotOver(Due due) {
         SlangYears x = after(8, LATER);
         x.song(0, 0, 22);
@@ -169,19 +174,20 @@ final class Promise14 {
         due.is("KEPT", x.life(0, 3), 13);
     }
 
-    @Says("OVER: the first YEAR behind that with a MEAN of YOUNG below 100; NONE.")
+    @Says(OVER)
     static void whatIsNeverOverIsNone(Due due) {
-        due.is("OVER of a plain one", after(99, "place;law 9 9 9;start 99;word 1 0 0 plain;").life(0, 2), SlangYears.NONE);
+        SlangYears x = after(99, "place;law 9 9 9;start 99;word 1 0 0 plain;");
+        due.is("OVER of a plain one", x.life(0, 2), SlangYears.NONE);
     }
 
     // ---- kept
 
-    @Says("KEPT: the AGE with the greatest SHARES of all PLACES, added, NOW, the least such.")
+    @Says(KEPT)
     static void ofSeveralAgesItIsTheLeast(Due due) {
         due.is("KEPT", Lands.still().life(0, 3), 15);
     }
 
-    @Says("KEPT: the AGE with the greatest SHARES of all PLACES, added, NOW, the least such.")
+    @Says(KEPT)
     static void itIsOfNow(Due due) {
         SlangYears x = after(10, Lands.STILL);
         due.is("KEPT ten years later", x.life(0, 3), 25);
@@ -189,14 +195,14 @@ final class Promise14 {
         due.is("KEPT when those of 13 have it as well", x.life(0, 3), 13);
     }
 
-    @Says("KEPT: the AGE with the greatest SHARES of all PLACES, added, NOW, the least such.")
+    @Says(KEPT)
     static void lessIsNotKept(Due due) {
         SlangYears x = after(10, Lands.STILL);
         x.song(0, 0, 49);
         due.is("KEPT", x.life(0, 3), 25);
     }
 
-    @Says("KEPT: the AGE with the greatest SHARES of all PLACES, added, NOW, the least such.")
+    @Says(KEPT)
     static void placesAreAdded(Due due) {
         SlangYears x = Lands.with("place;place;law 0 0 0;start 50;word 1 0 0;");
         x.song(0, 1, 1);
@@ -210,12 +216,12 @@ final class Promise14 {
         due.is("KEPT: 980 at 13; at 18 and 19 no less, at 20 to 22 1010", x.life(0, 3), 20);
     }
 
-    @Says("KEPT: the AGE with the greatest SHARES of all PLACES, added, NOW, the least such.")
+    @Says(KEPT)
     static void thoseOf69KeepIt(Due due) {
         due.is("KEPT", after(54, Lands.STILL).life(0, 3), 69);
     }
 
-    @Says("KEPT: the AGE with the greatest SHARES of all PLACES, added, NOW, the least such.")
+    @Says(KEPT)
     static void aShareOf1IsTheGreatestWhereThereIsNoOther(Due due) {
         SlangYears x = after(60, "place;law 1 0 0;start 3;word 0 0 0;");
         due.is("share of 69", x.share(0, 0, 69), 1);
@@ -223,7 +229,7 @@ final class Promise14 {
         due.is("KEPT", x.life(0, 3), 69);
     }
 
-    @Says("KEPT: the AGE with the greatest SHARES of all PLACES, added, NOW, the least such.")
+    @Says(KEPT)
     static void whereNobodyHasItItIsTheLeastOfAll(Due due) {
         due.is("KEPT", after(99, Lands.STILL).life(0, 3), 10);
     }
@@ -240,6 +246,15 @@ final class Promise14 {
     static void whatBelow0IsBad(Due due) {
         bad(due, 0, -1);
         bad(due, 0, Integer.MIN_VALUE);
+    }
+
+    @Says("WORDS 0 .. (5 at most)")
+    static void theFifthWordStands(Due due) {
+        SlangYears x = Lands.with(Lands.ALL);
+        x.go(4);
+        due.is("life(4, 0): 171 / 3", x.life(4, 0), 57);
+        due.is("life(4, 2): below 100 from the year behind its height on", x.life(4, 2), 1);
+        due.is("life(4, 3)", x.life(4, 3), 19);
     }
 
     @Says("BAD (a number is not as told, or there is no such thing)")

@@ -111,6 +111,17 @@ final class Promise15 {
         bad(due, 0, Integer.MIN_VALUE);
     }
 
+    @Says("WORDS 0 .. (5 at most)")
+    static void theFifthWordStands(Due due) {
+        SlangYears x = Lands.with(Lands.ALL);
+        for (int p = 0; p < 3; p++) {
+            x.song(4, p, 99);
+        }
+        x.go(17);
+        due.is("printed(4, 0): PARENTS of 1980 / 16 in year 17", x.printed(4, 0), 19);
+        due.is("printed(3, 0)", x.printed(3, 0), SlangYears.NONE);
+    }
+
     @Says("BAD (a number is not as told, or there is no such thing)")
     static void aWordThatThereIsNotIsBad(Due due) {
         bad(due, 4, 0);

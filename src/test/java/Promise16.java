@@ -1,5 +1,10 @@
 /** Promise 16, old(on, not, a, b, what). */
 final class Promise16 {
+    private static final String OLD = "OLD: WEIGHTS of AGES a .. b of all PLACES, by those of all: a fraction";
+
+    private static final String WEIGHT = "WEIGHT of an AGE and a PLACE: SHARES of all that are on it, "
+        + "and 1000 less SHARES of those left out, multiplied.";
+
     private static final String FIVE =
         "place;law 0 0 0;start 99;word 0 0 0;word 0 0 0;word 0 0 0;word 0 0 0;word 0 0 0;";
 
@@ -17,7 +22,7 @@ final class Promise16 {
 
     // ---- the fraction
 
-    @Says("OLD: WEIGHTS of AGES a .. b of all PLACES, by those of all: a fraction")
+    @Says(OLD)
     static void agesAAndBAreOfThem(Due due) {
         SlangYears x = Lands.with(Lands.TWO_STILL);
         fraction(due, x, new int[] {1, 0, 15, 16}, 2, 3);
@@ -25,19 +30,19 @@ final class Promise16 {
         fraction(due, x, new int[] {1, 0, 10, 15}, 1, 3);
     }
 
-    @Says("OLD: WEIGHTS of AGES a .. b of all PLACES, by those of all: a fraction")
+    @Says(OLD)
     static void aMayBeB(Due due) {
         fraction(due, Lands.with(Lands.TWO_STILL), new int[] {1, 0, 16, 16}, 1, 3);
     }
 
-    @Says("OLD: WEIGHTS of AGES a .. b of all PLACES, by those of all: a fraction")
+    @Says(OLD)
     static void allPlacesAreAdded(Due due) {
         SlangYears x = Lands.with(Lands.TWO_STILL);
         x.song(1, 0, 40);
         fraction(due, x, new int[] {2, 0, 13, 15}, 2, 5);
     }
 
-    @Says("OLD: WEIGHTS of AGES a .. b of all PLACES, by those of all: a fraction")
+    @Says(OLD)
     static void ofAllAgesItIs1(Due due) {
         fraction(due, Lands.with(Lands.TWO_STILL), new int[] {1, 0, 10, 69}, 1, 1);
     }
@@ -47,7 +52,7 @@ final class Promise16 {
         fraction(due, Lands.with(Lands.TWO_STILL), new int[] {1, 0, 18, 69}, 0, 1);
     }
 
-    @Says("WEIGHT of an AGE and a PLACE: SHARES of all that are on it, and 1000 less SHARES of those left out, multiplied.")
+    @Says(WEIGHT)
     static void anEmptyPageWeighsAlikeEverywhere(Due due) {
         SlangYears x = Lands.with(Lands.TWO_STILL);
         fraction(due, x, new int[] {0, 0, 10, 39}, 1, 2);
@@ -55,19 +60,19 @@ final class Promise16 {
         fraction(due, x, new int[] {0, 0, 69, 69}, 1, 60);
     }
 
-    @Says("WEIGHT of an AGE and a PLACE: SHARES of all that are on it, and 1000 less SHARES of those left out, multiplied.")
+    @Says(WEIGHT)
     static void aWordLeftOutWeighs1000LessItsShare(Due due) {
         // three of 600 and three of 1000, by 120 of 1000 less three of 400: 4800 by 118800
         fraction(due, Lands.with(Lands.TWO_STILL), new int[] {0, 1, 15, 17}, 4, 99);
     }
 
-    @Says("WEIGHT of an AGE and a PLACE: SHARES of all that are on it, and 1000 less SHARES of those left out, multiplied.")
+    @Says(WEIGHT)
     static void ofAWordThatNobodyHasEverybodyLeavesItOut(Due due) {
         fraction(due, Lands.with(Lands.TWO_STILL), new int[] {1, 4, 15, 16}, 2, 3);
         fraction(due, Lands.with(Lands.TWO_STILL), new int[] {0, 4, 10, 39}, 1, 2);
     }
 
-    @Says("WEIGHT of an AGE and a PLACE: SHARES of all that are on it, and 1000 less SHARES of those left out, multiplied.")
+    @Says(WEIGHT)
     static void severalWordsAreMultiplied(Due due) {
         SlangYears x = Lands.with("place;law 0 0 0;start 10;word 0 0 0;word 0 0 0;");
         x.song(0, 0, 20);
@@ -115,6 +120,13 @@ final class Promise16 {
         fraction(due, x, new int[] {1, 1 << 30, 15, 16}, 2, 3);
         fraction(due, x, new int[] {1, 1 << 31, 15, 16}, 2, 3);
         fraction(due, x, new int[] {0, -8, 10, 39}, 1, 2);
+    }
+
+    @Says("WEIGHTS of AGES a .. b of all PLACES")
+    static void inALandWithoutWordsAllWeighAlike(Due due) {
+        SlangYears x = Lands.with("place;place;");
+        fraction(due, x, new int[] {-1, -1, 10, 39}, 1, 2);
+        fraction(due, x, new int[] {0, 0, 69, 69}, 1, 60);
     }
 
     @Says("OLD: upper (what = 0), lower number (1), in least terms.")

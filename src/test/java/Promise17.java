@@ -1,5 +1,8 @@
 /** Promise 17, likeliest(on, not, what). */
 final class Promise17 {
+    private static final String LIKELIEST = "LIKELIEST: the AGE and PLACE of the greatest WEIGHT, "
+        + "of several the least AGE, then PLACE.";
+
     private Promise17() { }
 
     private static void likely(Due due, SlangYears x, int[] page, int age, int place) {
@@ -8,7 +11,7 @@ final class Promise17 {
         due.is(call + ", 1)", x.likeliest(page[0], page[1], 1), place);
     }
 
-    @Says("LIKELIEST: the AGE and PLACE of the greatest WEIGHT, of several the least AGE, then PLACE.")
+    @Says(LIKELIEST)
     static void itIsTheGreatestWeight(Due due) {
         SlangYears x = Lands.with(Lands.TWO_STILL);
         x.song(0, 1, 40);
@@ -23,21 +26,21 @@ final class Promise17 {
         likely(due, x, new int[] {1, 0}, 53, 1);
     }
 
-    @Says("LIKELIEST: the AGE and PLACE of the greatest WEIGHT, of several the least AGE, then PLACE.")
+    @Says(LIKELIEST)
     static void ofSeveralItIsTheLeastAge(Due due) {
         SlangYears x = Lands.with(Lands.TWO_STILL);
         likely(due, x, new int[] {1, 0}, 15, 0);
         likely(due, x, new int[] {2, 0}, 15, 1);
     }
 
-    @Says("LIKELIEST: the AGE and PLACE of the greatest WEIGHT, of several the least AGE, then PLACE.")
+    @Says(LIKELIEST)
     static void theLeastAgeIsAheadOfTheLeastPlace(Due due) {
         SlangYears x = Lands.with(Lands.TWO_STILL);
         x.song(0, 1, 40);
         likely(due, x, new int[] {1, 0}, 13, 1);
     }
 
-    @Says("LIKELIEST: the AGE and PLACE of the greatest WEIGHT, of several the least AGE, then PLACE.")
+    @Says(LIKELIEST)
     static void ofOneAgeItIsTheLeastPlace(Due due) {
         SlangYears x = Lands.with(Lands.TWO_STILL);
         x.song(0, 1, 40);
@@ -45,12 +48,24 @@ final class Promise17 {
         likely(due, x, new int[] {1, 0}, 13, 0);
     }
 
-    @Says("LIKELIEST: the AGE and PLACE of the greatest WEIGHT, of several the least AGE, then PLACE.")
+    @Says(LIKELIEST)
     static void ofAnEmptyPageItIsTheLeastOfAll(Due due) {
         likely(due, Lands.with(Lands.TWO_STILL), new int[] {0, 0}, 10, 0);
     }
 
-    @Says("LIKELIEST: the AGE and PLACE of the greatest WEIGHT, of several the least AGE, then PLACE.")
+    @Says(LIKELIEST)
+    static void inALandWithoutWordsItIsTheLeastOfAll(Due due) {
+        likely(due, Lands.with("place;place;"), new int[] {-1, -1}, 10, 0);
+    }
+
+    @Says(LIKELIEST)
+    static void itMayBeTheThirdPlace(Due due) {
+        SlangYears x = Lands.with(Lands.ALL);
+        likely(due, x, new int[] {16, 0}, 15, 2);
+        likely(due, x, new int[] {4 | 16, 0}, 15, 2);
+    }
+
+    @Says(LIKELIEST)
     static void itMayBe69(Due due) {
         SlangYears x = Lands.with(Lands.TWO_STILL);
         x.go(54);

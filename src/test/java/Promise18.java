@@ -1,5 +1,8 @@
 /** Promise 18, letter(words, year, age, p). */
 final class Promise18 {
+    private static final String THE_LETTER = "THE LETTER becomes so (WORDS that there are not are left out): how "
+        + "many WORDS it has.";
+
     private Promise18() { }
 
     private static void bad(Due due, int year, int age, int p) {
@@ -12,7 +15,7 @@ final class Promise18 {
         return x;
     }
 
-    @Says("THE LETTER becomes so (WORDS that there are not are left out): how many WORDS it has.")
+    @Says(THE_LETTER)
     static void itAnswersHowManyWordsItHas(Due due) {
         SlangYears x = inYear5();
         due.is("letter of 7", x.letter(7, 0, 15, 0), 3);
@@ -20,7 +23,7 @@ final class Promise18 {
         due.is("letter of 2", x.letter(2, 0, 15, 0), 1);
     }
 
-    @Says("THE LETTER becomes so (WORDS that there are not are left out): how many WORDS it has.")
+    @Says(THE_LETTER)
     static void wordsThatThereAreNotAreLeftOut(Due due) {
         SlangYears x = inYear5();
         due.is("letter of 15", x.letter(15, 0, 15, 0), 3);
@@ -29,7 +32,24 @@ final class Promise18 {
         due.is("letter of bit 31 and of 1", x.letter(1 << 31 | 1, 0, 15, 0), 1);
     }
 
-    @Says("THE LETTER becomes so (WORDS that there are not are left out): how many WORDS it has.")
+    @Says(THE_LETTER)
+    static void itMayHaveFive(Due due) {
+        SlangYears x = Lands.with(Lands.ALL);
+        due.is("letter of 31 at the third place", x.letter(31, 0, 15, 2), 5);
+        due.is("could()", x.could(), 1 | 2 | 8);
+        due.is("letter of 63", x.letter(63, 0, 15, 2), 5);
+        due.is("letter of 16", x.letter(16, 0, 15, 2), 1);
+        due.is("could()", x.could(), 0);
+    }
+
+    @Says(THE_LETTER)
+    static void inALandWithoutWordsItHasNone(Due due) {
+        SlangYears x = Lands.with("place;");
+        due.is("letter of all bits", x.letter(-1, 0, 15, 0), 0);
+        due.is("could()", x.could(), 0);
+    }
+
+    @Says(THE_LETTER)
     static void itMayHaveNoWords(Due due) {
         SlangYears x = inYear5();
         due.is("letter of 0", x.letter(0, 0, 15, 0), 0);
@@ -38,7 +58,7 @@ final class Promise18 {
         due.is("could()", x.could(), 0);
     }
 
-    @Says("THE LETTER becomes so (WORDS that there are not are left out): how many WORDS it has.")
+    @Says(THE_LETTER)
     static void wordsThatAreNotCoinedMayBeOnIt(Due due) {
         SlangYears x = Lands.with(Lands.TWO_STILL);
         due.is("letter of a word not COINED", x.letter(4, 0, 15, 0), 1);

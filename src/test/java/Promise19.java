@@ -1,8 +1,11 @@
 /** Promise 19, could(). */
 final class Promise19 {
+    private static final String COULD_NOT = "COULD NOT: those of its WORDS with a SHARE of 0 at that YEAR's begin, "
+        + "there, at that AGE.";
+
     private Promise19() { }
 
-    @Says("COULD NOT: those of its WORDS with a SHARE of 0 at that YEAR's begin, there, at that AGE.")
+    @Says(COULD_NOT)
     static void aShareOf0CouldNot(Due due) {
         SlangYears x = Lands.with("place;place;near 0 1 1;law 1 0 0;start 30;word 0 0 0;");
         due.is("share in year 0", x.share(0, 1, 13), 0);
@@ -10,7 +13,7 @@ final class Promise19 {
         due.is("could()", x.could(), 1);
     }
 
-    @Says("COULD NOT: those of its WORDS with a SHARE of 0 at that YEAR's begin, there, at that AGE.")
+    @Says(COULD_NOT)
     static void aShareOf1Could(Due due) {
         SlangYears x = Lands.with("place;place;near 0 1 1;law 1 0 0;start 30;word 0 0 0;");
         x.go(1);
@@ -19,7 +22,7 @@ final class Promise19 {
         due.is("could()", x.could(), 0);
     }
 
-    @Says("COULD NOT: those of its WORDS with a SHARE of 0 at that YEAR's begin, there, at that AGE.")
+    @Says(COULD_NOT)
     static void itIsOfItsWordsAlone(Due due) {
         SlangYears x = Lands.with(Lands.TWO_STILL);
         x.letter(7, 0, 15, 0);
@@ -37,7 +40,7 @@ final class Promise19 {
         due.is("could()", x.could(), 17);
     }
 
-    @Says("COULD NOT: those of its WORDS with a SHARE of 0 at that YEAR's begin, there, at that AGE.")
+    @Says(COULD_NOT)
     static void itIsAtItsPlace(Due due) {
         SlangYears x = Lands.with(Lands.TWO_STILL);
         x.letter(3, 0, 15, 0);
@@ -46,7 +49,7 @@ final class Promise19 {
         due.is("could() at 1", x.could(), 1);
     }
 
-    @Says("COULD NOT: those of its WORDS with a SHARE of 0 at that YEAR's begin, there, at that AGE.")
+    @Says(COULD_NOT)
     static void itIsAtItsAge(Due due) {
         SlangYears x = Lands.with(Lands.TWO_STILL);
         x.letter(1, 0, 14, 0);

@@ -27,8 +27,8 @@ final class Promise20 {
 
     // ---- the fraction
 
-    @Says("WEIGHT as of a PAGE (nothing left out) of the forger NOW times f, by that and WEIGHT of the letter's writer in "
-        + "its YEAR times (10 less f)")
+    @Says("WEIGHT as of a PAGE (nothing left out) of the forger NOW times f, by that and WEIGHT of the letter's "
+        + "writer in its YEAR times (10 less f)")
     static void itIsByTenths(Due due) {
         SlangYears x = land();
         x.letter(1, 0, 15, 0);
@@ -148,6 +148,15 @@ final class Promise20 {
         x.letter(31, 0, 15, 0);
         // 10 to the 5th, by that and 990 to the 5th
         odds(due, x, new int[] {13, 0, 5}, 1, 1 + 99L * 99 * 99 * 99 * 99);
+    }
+
+    @Says("FORGED by one of AGE b at PLACE q")
+    static void theFifthWordAndTheThirdPlaceStand(Due due) {
+        SlangYears x = Lands.with(Lands.ALL);
+        x.song(4, 2, 20);
+        x.letter(16, 0, 15, 2);
+        // 200, by that and 400
+        odds(due, x, new int[] {13, 2, 5}, 1, 3);
     }
 
     @Says("FORGED by one of AGE b at PLACE q")

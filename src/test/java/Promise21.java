@@ -121,6 +121,14 @@ final class Promise21 {
         due.is("kills(0)", x.kills(0), 24);
     }
 
+    @Says("WORDS 0 .. (5 at most)")
+    static void theFifthWordStands(Due due) {
+        SlangYears x = Lands.with("place;law 0 9 9;start 1;" + "word 1 0 0;".repeat(5));
+        x.song(4, 0, 80);
+        due.is("kills(4)", x.kills(4), 2);
+        due.is("kills(3)", x.kills(3), 0);
+    }
+
     @Says("NO: BAD, STATE.")
     static void ofAWordThatThereIsNotItIsNo(Due due) {
         no(due, 4);

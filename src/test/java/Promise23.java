@@ -1,5 +1,8 @@
 /** Promise 23, writing(year, age, w). */
 final class Promise23 {
+    private static final String WRITINGS = "WRITINGS (40 at most): a YEAR (0 .. 99), the writer's AGE (10 .. 69), "
+        + "a WORD.";
+
     private static final String LAND = "place;word 1 80 0;word 1 0 0;";
 
     private Promise23() { }
@@ -17,45 +20,52 @@ final class Promise23 {
         due.is("count(4)", x.count(4), 3);
     }
 
-    @Says("WRITINGS (40 at most): a YEAR (0 .. 99), the writer's AGE (10 .. 69), a WORD.")
+    @Says(WRITINGS)
     static void year0IsTheLeast(Due due) {
         due.is("writing of year 0", Lands.with(LAND).writing(0, 20, 0), 1);
     }
 
-    @Says("WRITINGS (40 at most): a YEAR (0 .. 99), the writer's AGE (10 .. 69), a WORD.")
+    @Says(WRITINGS)
     static void year99IsTheMost(Due due) {
         due.is("writing of year 99 in year 0", Lands.with(LAND).writing(99, 20, 0), 1);
     }
 
-    @Says("WRITINGS (40 at most): a YEAR (0 .. 99), the writer's AGE (10 .. 69), a WORD.")
+    @Says(WRITINGS)
     static void aYearBelow0IsBad(Due due) {
         bad(due, -1, 20, 0);
         bad(due, Integer.MIN_VALUE, 20, 0);
     }
 
-    @Says("WRITINGS (40 at most): a YEAR (0 .. 99), the writer's AGE (10 .. 69), a WORD.")
+    @Says(WRITINGS)
     static void aYearOf100AndAboveIsBad(Due due) {
         bad(due, 100, 20, 0);
         bad(due, Integer.MAX_VALUE, 20, 0);
     }
 
-    @Says("WRITINGS (40 at most): a YEAR (0 .. 99), the writer's AGE (10 .. 69), a WORD.")
+    @Says(WRITINGS)
     static void ages10And69Stand(Due due) {
         SlangYears x = Lands.with(LAND);
         due.is("writing of 10", x.writing(5, 10, 0), 1);
         due.is("writing of 69", x.writing(5, 69, 0), 2);
     }
 
-    @Says("WRITINGS (40 at most): a YEAR (0 .. 99), the writer's AGE (10 .. 69), a WORD.")
+    @Says(WRITINGS)
     static void ageOf9AndBelowIsBad(Due due) {
         bad(due, 5, 9, 0);
         bad(due, 5, Integer.MIN_VALUE, 0);
     }
 
-    @Says("WRITINGS (40 at most): a YEAR (0 .. 99), the writer's AGE (10 .. 69), a WORD.")
+    @Says(WRITINGS)
     static void ageOf70AndAboveIsBad(Due due) {
         bad(due, 5, 70, 0);
         bad(due, 5, Integer.MAX_VALUE, 0);
+    }
+
+    @Says("WORDS 0 .. (5 at most)")
+    static void theFifthWordStands(Due due) {
+        SlangYears x = Lands.with(Lands.ALL);
+        due.is("writing", x.writing(50, 20, 4), 1);
+        due.is("span(4, 0)", x.span(4, 0), 46);
     }
 
     @Says("BAD (a number is not as told, or there is no such thing)")

@@ -110,6 +110,16 @@ final class Promise24 {
         mean(due, x, 40 * 105 - 1, 40);
     }
 
+    @Says("WORDS 0 .. (5 at most)")
+    static void theFifthWordStands(Due due) {
+        SlangYears x = Lands.with(Lands.ALL);
+        x.writing(50, 20, 3);
+        due.is("span(4, 0) of none", x.span(4, 0), SlangYears.NO);
+        x.writing(50, 21, 4);
+        due.is("span(4, 0)", x.span(4, 0), 45);
+        due.is("span(4, 3)", x.span(4, 3), 1);
+    }
+
     @Says("NO: BAD, or there are no WRITINGS with it.")
     static void withoutWritingsItIsNo(Due due) {
         no(due, 2, 0);

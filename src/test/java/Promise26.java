@@ -139,6 +139,21 @@ final class Promise26 {
         due.is("drawn(69, 0)", x.drawn(69, 0), 1);
     }
 
+    @Says("DRAWN: one of an AGE at a PLACE")
+    static void theFifthWordAndTheThirdPlaceStand(Due due) {
+        SlangYears x = Lands.with(Lands.ALL);
+        int lot = 1;
+        for (int i = 0; i < 20; i++) {
+            int bits = 0;
+            for (int w = 0; w < 5; w++) {
+                lot = behind(lot);
+                boolean has = (lot & 0xffffffffL) / 65536 % 1000 < 400;
+                bits |= has && (w == 2 || w == 4) ? 1 << w : 0;
+            }
+            due.is("drawn(16, 2), time " + i, x.drawn(16, 2), bits);
+        }
+    }
+
     @Says("WORD by WORD THE LOT goes on")
     static void withoutWordsTheLotStays(Due due) {
         SlangYears x = Lands.with("place;");

@@ -81,6 +81,13 @@ final class Promise28 {
         no(due, Integer.MIN_VALUE, 0);
     }
 
+    @Says("WORDS 0 .. (5 at most)")
+    static void theFifthWordStands(Due due) {
+        SlangYears x = Lands.with(Lands.ALL);
+        due.is("rate(5, 4)", x.rate(5, 4), 1);
+        due.is("rate(1, 4)", x.rate(1, 4), 57);
+    }
+
     @Says("RATE. NO: BAD.")
     static void aWordThatThereIsNotIsNo(Due due) {
         no(due, 0, 4);
