@@ -148,6 +148,17 @@ final class Promise09 {
         due.is("share of 16: 460 and 197 * 540 / 10 000", x.share(0, 0, 16), 470);
     }
 
+    @Says("by 10 000 000, rounded down")
+    static void whatIsTakenUpIsRoundedDownCloseBelowAWhole(Due due) {
+        SlangYears x = after(4, "place;law 6 1 1;start 67;word 0 0 0;");
+        due.is("YOUNG", x.has(0, 0, 0), 665);
+        due.is("PARENTS", x.has(0, 0, 1), 65);
+        due.is("share of 13", x.share(0, 0, 13), 354);
+        x.go(1);
+        due.is("share of 14: 354 and 2 409 999 900 / 10 000 000, less 1 * 65 * 594 / 10 000",
+            x.share(0, 0, 14), 354 + 240 - 3);
+    }
+
     @Says("times (1000 less SHARE)")
     static void aShareOf999CannotGrow(Due due) {
         SlangYears x = Lands.with("place;law 9 0 0;start 99;word 0 0 0;");

@@ -6,8 +6,12 @@ import java.nio.file.Files;
 import java.nio.file.Path;
 import java.util.Arrays;
 import java.util.Comparator;
+import java.util.List;
 
-/** Runs the tests of Promise01 to Promise32, each by itself: every method with @Says is one. */
+/**
+ * Runs the tests of Promise01 to Promise32, each by itself: every method with @Says is one. Numbers of promises
+ * as arguments: the tests of these alone.
+ */
 public final class PromisesTest {
     private static final int PROMISES = 32;
     private static final Path DOCUMENT = Path.of("../shared/DOC.md");
@@ -25,8 +29,14 @@ public final class PromisesTest {
         } else {
             System.out.println("PromisesTest: no document at " + DOCUMENT + ", its words are not looked up");
         }
+        List<String> asked = List.of(args);
         for (int n = 1; n <= PROMISES; n++) {
-            runAll(n, Class.forName(String.format("Promise%02d", n)));
+            if (asked.isEmpty() || asked.contains(String.valueOf(n))) {
+                runAll(n, Class.forName(String.format("Promise%02d", n)));
+            }
+        }
+        if (tests == 0) {
+            tell("PromisesTest", "there are no promises " + asked);
         }
         System.out.println("PromisesTest: " + tests + " tests, " + failed + " failed");
         if (failed != 0) {
